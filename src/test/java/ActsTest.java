@@ -29,7 +29,7 @@ public final class ActsTest {
         Check.due("led(0) throws", Check.ledThrows(x, 0), true);
     }
 
-    // Promise 49; 999 days can't go by in 512 calls
+    // Promise 49
     private static void day() {
         GrudgeLoft x = Check.town(Check.TOWN);
         int[] sitting = {0, 0, 2, 3, 4, 4};
@@ -39,6 +39,12 @@ public final class ActsTest {
         }
         x.pay(0, 12);
         Check.granted(x, "day(), one gone", x.day(), 3);
+        // an object promises nothing behind 512 calls, but the edge is looked at all the same
+        GrudgeLoft old = Check.town(Check.TOWN);
+        Check.days(old, 998);
+        Check.granted(old, "day() 999", old.day(), 4);
+        Check.refused(old, "day() 1000", old.day(), 3);
+        Check.due("the day stays", old.size(7), 999);
     }
 
     // Promise 50
