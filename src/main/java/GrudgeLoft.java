@@ -20,7 +20,6 @@ public final class GrudgeLoft {
     private static final int HAWK_DAYS = 8;
     private static final int MOST_SEED = 65_536;
 
-    private final Tape tape;
     private final Reader reader;
     private final Present now;
     private final History history;
@@ -33,9 +32,7 @@ public final class GrudgeLoft {
     private int refusal;
 
     public GrudgeLoft() {
-        Tape blank = new Tape();
-        tape = blank;
-        reader = new Reader(blank);
+        reader = new Reader();
         now = new Present();
         history = new History();
         amends = new Amends();
@@ -47,6 +44,7 @@ public final class GrudgeLoft {
     // ---- the town
 
     public int feed(int a, int b, int c, int d, int e) {
+        Tape tape = reader.tape;
         if (tape.length + Tape.FED_AT_ONCE > Tape.BYTES) {
             return NONE;
         }
@@ -59,10 +57,10 @@ public final class GrudgeLoft {
     }
 
     public int loft(int n) {
-        if (n < 0 || n > tape.length) {
+        if (n < 0 || n > reader.tape.length) {
             return refuse(BAD_NUMBER);
         }
-        tape.length = 0;
+        reader.tape.length = 0;
         boolean sound = reader.read(n);
         faultNumber = reader.number;
         faultPlace = reader.place;
@@ -385,8 +383,7 @@ public final class GrudgeLoft {
         if (!now.sitsOn(town, b, now.date)) {
             return refuse(NOT_SO);
         }
-        refusal = 0;
-        return Hawks.untaken(town.hawks, n, lower);
+        return grantLong(Hawks.untaken(town.hawks, n, lower));
     }
 
     public long left(int h, int many, boolean lower) {
@@ -396,9 +393,8 @@ public final class GrudgeLoft {
         if (!isWithin(many, 0, Town.MOST_BIRDS)) {
             return refuse(BAD_NUMBER);
         }
-        refusal = 0;
         int sitting = Integer.bitCount(now.sitters(town, h, now.date));
-        return Hawks.untakenOf(town.hawks, sitting, many, lower);
+        return grantLong(Hawks.untakenOf(town.hawks, sitting, many, lower));
     }
 
     public long stays(int n, boolean lower) {
@@ -408,8 +404,7 @@ public final class GrudgeLoft {
         if (!isWithin(n, 0, HAWK_DAYS)) {
             return refuse(BAD_NUMBER);
         }
-        refusal = 0;
-        return Hawks.meanDays(town.hawks, n, lower);
+        return grantLong(Hawks.meanDays(town.hawks, n, lower));
     }
 
     public int aloft(int b, int seed) {
@@ -547,7 +542,7 @@ public final class GrudgeLoft {
             case 10:
                 return history.images;
             case 11:
-                return tape.length;
+                return reader.tape.length;
             default:
                 return NONE;
         }
@@ -563,6 +558,11 @@ public final class GrudgeLoft {
     }
 
     private int grant(int answer) {
+        refusal = 0;
+        return answer;
+    }
+
+    private long grantLong(long answer) {
         refusal = 0;
         return answer;
     }
@@ -724,7 +724,7 @@ public final class GrudgeLoft {
         private static final int MOST_NAMES = Town.MOST_HOUSES + Town.MOST_BIRDS + Strays.MOST_STRAYS;
         private static final int LATEST_DAY = 30;
 
-        private final Tape tape;
+        private final Tape tape = new Tape();
         private final long[] name = new long[MOST_NAMES];
         private final int[] houseNamed = new int[MOST_NAMES];
         private int names;
@@ -732,12 +732,7 @@ public final class GrudgeLoft {
         private int value;
         private int number;
         private int place;
-        private Town draft;
-
-        Reader(Tape tape) {
-            this.tape = tape;
-            draft = new Town();
-        }
+        private Town draft = new Town();
 
         boolean read(int n) {
             number = 0;

@@ -13,6 +13,7 @@ public final class ActsTest {
         led();
         size();
         trouble();
+        troubleEnds();
         Check.end("ActsTest");
     }
 
@@ -284,5 +285,25 @@ public final class ActsTest {
         Check.due("6", x.trouble(), 6);
         x.meeting(0, 2);
         Check.due("-2 is no refusal", x.trouble(), 0);
+    }
+
+    private static void troubleEnds() {
+        GrudgeLoft x = Check.town(Check.TOWN);
+        Check.days(x, 5);
+        x.image();
+        x.house(9, 0);
+        Check.granted(x, "safe() behind a refusal", x.safe(0, 0, true), 1);
+        x.house(9, 0);
+        Check.granted(x, "left() behind a refusal", x.left(0, 7, true), 1);
+        x.house(9, 0);
+        Check.granted(x, "stays() behind a refusal", x.stays(0, true), 1);
+        x.house(9, 0);
+        Check.granted(x, "pay() behind a refusal", x.pay(0, 1), 11);
+        x.house(9, 0);
+        Check.granted(x, "undo() behind a refusal", x.undo() ? 1 : 0, 1);
+        x.house(9, 0);
+        Check.granted(x, "back() behind a refusal", x.back(0) ? 1 : 0, 1);
+        x.house(9, 0);
+        Check.granted(x, "loft() behind a refusal", Check.loft(x, Check.TOWN), 3);
     }
 }

@@ -151,6 +151,11 @@ public final class ChanceTest {
         Check.granted(x, "last(65536): none comes", x.last(65536), -2);
         x.meet(0, 1);
         Check.granted(x, "last(0), two gone: 0 + 4, 2 + 6", x.last(0), 3);
+        // p, 90 DRAWS and not there, leaves the SEED by which q is 16 days aloft and r 18; another DRAW: 18 and 18
+        GrudgeLoft far = Check.town("loft wings 1 hawks 0 storm 50;house a at 0 coins 0;house b at 99 coins 0;"
+                + "house c at 90 coins 0;bird p plain from a to b day 30 wrong 1;"
+                + "bird q plain from b to c day 0 wrong 1;bird r plain from b to c day 0 wrong 1");
+        Check.due("last behind 90 DRAWS", far.last(8), 2);
         GrudgeLoft like = Check.town("loft wings 1 hawks 0 storm 0;house a at 0 coins 0;house b at 5 coins 0;"
                 + "bird p plain from a to b day 0 wrong 1;bird q plain from a to b day 2 wrong 1;"
                 + "bird r plain from b to a day 2 wrong 1");

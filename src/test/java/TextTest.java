@@ -17,6 +17,7 @@ public final class TextTest {
         lacks();
         faultAndPlaceLast();
         townStaysOrStartsAnew();
+        nothingIsLeftOver();
         Check.end("TextTest");
     }
 
@@ -93,6 +94,19 @@ public final class TextTest {
         String whole = HOUSES.substring(0, HOUSES.length() - 1);
         Check.feed(cut, whole + ";nonsense");
         Check.granted(cut, "loft of the first bytes", cut.loft(whole.length()), 3);
+        // a TOKEN ends where the first n bytes do: 123 is cut to 12
+        GrudgeLoft half = new GrudgeLoft();
+        String last = whole + ";house dot at 9 coins 12";
+        Check.feed(half, last + "3");
+        Check.granted(half, "loft cut in a TOKEN", half.loft(last.length()), 4);
+        Check.due("coins cut", half.house(3, 1), 12);
+        // and where a full tape does
+        StringBuilder wide = new StringBuilder(whole + ";house dot at 9 coins ");
+        while (wide.length() < 897) {
+            wide.append(' ');
+        }
+        Check.granted(half, "loft of 900", Check.loft(half, wide.append("123").toString()), 4);
+        Check.due("coins at the end", half.house(3, 1), 123);
     }
 
     /** A ^ stands ahead of the place of the fault. */
@@ -282,5 +296,35 @@ public final class TextTest {
         Check.due("WHITE anew", x.house(1, 2), 0);
         Check.due("undo", x.undo(), false);
         Check.due("back", x.back(0), false);
+    }
+
+    // each loft forgets all that earlier ones told, sound or faulty
+    private static void nothingIsLeftOver() {
+        GrudgeLoft x = new GrudgeLoft();
+        String full = Check.TOWN + ";stray s from ash day 3;seen ash day 0 birds 0";
+        String bare = "loft wings 1 hawks 2 storm 3;house a at 0 coins 4;house b at 7 coins 5";
+        for (int i = 0; i < 3; i++) {
+            Check.loft(x, full);
+            Check.due("birds of the full one", x.size(4), 4);
+            Check.due("seen of the full one", x.size(6), 1);
+            Check.due("fits of the full one", x.fits(), 2);
+            x.meet(0, 1);
+            if (i > 0) {
+                Check.loft(x, full + ";stray ash");
+            }
+            for (int k = 0; k <= i; k++) {
+                Check.granted(x, "loft of the bare one", Check.loft(x, bare), 2);
+                int[] due = {1, 2, 3, 2, 0, 0, 0, 0, 0, 0, 0, 0};
+                for (int what = 0; what < due.length; what++) {
+                    Check.due("size(" + what + ") of the bare one", x.size(what), due[what]);
+                }
+                Check.due("fits of the bare one", x.fits(), 1);
+                Check.due("coins of the bare one", x.house(1, 1), 5);
+            }
+        }
+        Check.loft(x, full);
+        x.meet(0, 1);
+        Check.loft(x, full);
+        Check.due("none is gone", x.birds(), 0b1111);
     }
 }
