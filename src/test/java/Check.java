@@ -9,10 +9,32 @@ final class Check {
             + "bird pat honest from bay to ash day 1 wrong 9;"
             + "bird pug proud from cot to ash day 0 wrong 4;"
             + "bird poe blind from ash to bay day 2 wrong 6";
-    /** What every call that needs a TOWN is tried without. */
+    /** Houses without birds. */
+    static final String NO_BIRDS = "loft wings 1 hawks 0 storm 0;house a at 0 coins 9;house b at 99 coins 9;"
+            + "house c at 60 coins 9";
+    /** As many of each LINE as there may be; g to m SIT from days 1 to 7 on b, b, b, a, f, c, b. */
+    static final String FULL = "loft wings 5 hawks 10 storm 30;house a at 0 coins 60;house b at 5 coins 70;"
+            + "house c at 10 coins 80;house d at 15 coins 90;house e at 20 coins 100;house f at 25 coins 300;"
+            + "bird g plain from a to b day 0 wrong 7;bird h plain from a to b day 1 wrong 6;"
+            + "bird i plain from a to b day 2 wrong 5;bird j plain from b to a day 3 wrong 4;"
+            + "bird k plain from e to f day 4 wrong 3;bird l plain from d to c day 5 wrong 2;"
+            + "bird m plain from c to b day 6 wrong 1;"
+            + "stray n from a day 0;stray o from b day 0;stray p from f day 0;"
+            + "seen a day 0 birds 0;seen b day 0 birds 0;seen c day 0 birds 0;seen d day 0 birds 0;"
+            + "seen f day 5 birds 1";
     static final int NONE = GrudgeLoft.NONE;
 
     private static int wrong = 0;
+
+    /** A call that answers a number. */
+    interface Call {
+        long answer();
+    }
+
+    /** A call that answers true or false. */
+    interface Wish {
+        boolean answer();
+    }
 
     private Check() {
     }
@@ -28,15 +50,62 @@ final class Check {
         due(call, got ? 1 : 0, want ? 1 : 0);
     }
 
-    /** An answer that wasn't refused. */
-    static void granted(GrudgeLoft x, String call, long got, long want) {
-        due(call, got, want);
+    /** An answer that isn't refused, by a call behind one that was. */
+    static void granted(GrudgeLoft x, String call, Call made, long want) {
+        x.back(NONE);
+        due(call, made.answer(), want);
         due(call + ": trouble", x.trouble(), 0);
     }
 
-    static void refused(GrudgeLoft x, String call, long got, int why) {
-        due(call, got, NONE);
+    static void granted(GrudgeLoft x, String call, Wish made) {
+        granted(x, call, () -> made.answer() ? 1 : 0, 1);
+    }
+
+    /** A refusal, by a call behind one that was refused for another cause. */
+    static void refused(GrudgeLoft x, String call, Call made, int why) {
+        spoil(x, why);
+        due(call, made.answer(), NONE);
         due(call + ": trouble", x.trouble(), why);
+    }
+
+    static void refused(GrudgeLoft x, String call, Wish made, int why) {
+        spoil(x, why);
+        due(call, made.answer(), false);
+        due(call + ": trouble", x.trouble(), why);
+    }
+
+    private static void spoil(GrudgeLoft x, int why) {
+        if (why == 1) {
+            x.loft(NONE);
+        } else {
+            x.back(NONE);
+        }
+    }
+
+    /** A refusal that leaves all that can be told of a TOWN as it was. */
+    static void refusedAndStays(GrudgeLoft x, String call, Call made, int why) {
+        String ahead = told(x);
+        refused(x, call, made, why);
+        due(call + ": all stays", told(x).equals(ahead), true);
+    }
+
+    /** All that is told of a TOWN, its ACTS and IMAGES. */
+    static String told(GrudgeLoft x) {
+        StringBuilder all = new StringBuilder();
+        for (int what = 0; what <= 10; what++) {
+            all.append(x.size(what)).append(' ');
+        }
+        for (int h = 0; h < x.size(3); h++) {
+            for (int what = 0; what <= 4; what++) {
+                all.append(x.house(h, what)).append(' ');
+            }
+        }
+        for (int b = 0; b < x.size(4); b++) {
+            for (int what = 0; what <= 7; what++) {
+                all.append(x.bird(b, what)).append(' ');
+            }
+        }
+        return all.append(x.fits()).append(' ').append(x.look()).append(' ').append(x.judge()).toString();
     }
 
     /** Feeds a text, blanks behind it up to a twenty. */
@@ -84,6 +153,27 @@ final class Check {
         } catch (java.util.NoSuchElementException none) {
             return true;
         }
+    }
+
+    /** A text that becomes a TOWN of so many houses. */
+    static void sound(String text, int houses) {
+        GrudgeLoft x = new GrudgeLoft();
+        feed(x, text);
+        granted(x, "loft of '" + text + "'", () -> x.loft(text.length()), houses);
+        due("fault of '" + text + "'", x.fault(), 0);
+        due("where of '" + text + "'", x.where(), NONE);
+    }
+
+    /** A text with a FAULT; a ^ stands ahead of its place. */
+    static void faulty(int number, String marked) {
+        int place = marked.indexOf('^');
+        String text = marked.substring(0, place) + marked.substring(place + 1);
+        GrudgeLoft x = new GrudgeLoft();
+        feed(x, text);
+        refused(x, "loft of '" + marked + "'", () -> x.loft(text.length()), 4);
+        due("fault of '" + marked + "'", x.fault(), number);
+        due("where of '" + marked + "'", x.where(), place);
+        due("no town by '" + marked + "'", x.size(3), 0);
     }
 
     static void end(String name) {

@@ -21,8 +21,8 @@ public final class LanguageTest {
             Check.due("'" + regex + "' stands there", Pattern.compile(regex).matcher(whole).find(), false);
         }
         Check.due("imports", count(whole, "(?m)^import "), 1);
-        Check.due("classes are some twelve", count(whole, "(?m)^ *(public |private )?(static )?final class ") <= MOST_CLASSES,
-                true);
+        int classes = count(whole, "(?m)^ *(public |private )?(static )?final class ");
+        Check.due("classes are some twelve", classes <= MOST_CLASSES, true);
         lengths(lines);
         names(whole);
         Check.end("LanguageTest");
