@@ -264,6 +264,15 @@ public final class AmendsTest {
         Check.granted(x, "mate(0)", () -> x.mate(0), 2);
         Check.granted(x, "mate(1)", () -> x.mate(1), -2);
         Check.granted(x, "mate(2)", () -> x.mate(2), 0);
+        // q with r would be as cheap as q with s, were r not with p
+        GrudgeLoft y = Check.town(Check.HOUSES + "bird p plain from ash to bay day 0 wrong 5;"
+                + "bird q plain from ash to bay day 0 wrong 5;bird r plain from bay to ash day 0 wrong 2;"
+                + "bird s plain from bay to ash day 0 wrong 1");
+        int[] due = {2, 3, 0, 1};
+        for (int b = 0; b < due.length; b++) {
+            int bird = b;
+            Check.granted(y, "mate(" + b + ") of two by two", () -> y.mate(bird), due[b]);
+        }
     }
 
     // Promise 24, "or gone.": they are no one's mates, nor have any

@@ -306,6 +306,9 @@ public final class DaysTest {
         Check.granted(y, "allSit() of day 5", y::allSit, 0);
         Check.days(y, 70);
         Check.granted(y, "allSit() of day 75", y::allSit, 0);
+        GrudgeLoft late = Check.town(Check.HOUSES + "bird p plain from ash to bay day 9 wrong 1;"
+                + "bird q plain from ash to bay day 0 wrong 1");
+        Check.granted(late, "allSit(), the first is the last", late::allSit, 12);
     }
 
     // Promise 18, "-2 not in these.": in 60 they do, in 61 not

@@ -428,13 +428,17 @@ public final class NowTest {
     // Promise 10, "The house with most birds that SIT": not with most on their way, nor gone
     private static void fullest() {
         GrudgeLoft x = Check.town(Check.TOWN);
-        Check.days(x, 3);
-        x.pay(2, 8);
-        Check.granted(x, "fullest(), but one SITS, on bay", x::fullest, 1);
-        Check.days(x, 2);
-        x.pay(0, 12);
+        Check.days(x, 5);
+        Check.granted(x, "fullest(), two on ash, one on bay, one on cot", x::fullest, 0);
         x.pay(1, 5);
-        Check.granted(x, "fullest(), but one SITS, on cot", x::fullest, 2);
+        x.pay(2, 8);
+        x.pay(3, 6);
+        Check.granted(x, "fullest(), but one SITS, on bay", x::fullest, 1);
+        GrudgeLoft y = Check.town(Check.TOWN);
+        Check.days(y, 5);
+        y.meet(0, 1);
+        y.pay(2, 8);
+        Check.granted(y, "fullest(), but one SITS, on cot", y::fullest, 2);
     }
 
     // Promise 10, "the first such.": of none that SIT, of as many on each

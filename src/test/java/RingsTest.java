@@ -242,6 +242,11 @@ public final class RingsTest {
         GrudgeLoft y = Check.town(Check.HOUSES + "bird p plain from ash to bay day 0 wrong 1;"
                 + "bird q plain from ash to bay day 0 wrong 22;bird r plain from bay to ash day 0 wrong 2");
         Check.granted(y, "bestMeeting(), spared is not what it costs", y::bestMeeting, 12);
+        // two apart: the first would spare 2 of 51, the others 6 of 6
+        GrudgeLoft apart = Check.town(Check.HOUSES + "bird p plain from ash to bay day 0 wrong 1;"
+                + "bird q plain from bay to ash day 0 wrong 50;bird r plain from ash to cot day 0 wrong 3;"
+                + "bird s plain from cot to ash day 0 wrong 3");
+        Check.granted(apart, "bestMeeting(), spared is not all that is LEFT", apart::bestMeeting, 23);
         GrudgeLoft z = Check.town(Check.HOUSES + "bird o plain from ash to cot day 0 wrong 9;"
                 + "bird p plain from ash to cot day 0 wrong 9;bird q plain from ash to cot day 0 wrong 9;"
                 + "bird r plain from ash to cot day 0 wrong 9;bird s plain from ash to cot day 0 wrong 9;"
