@@ -221,6 +221,17 @@ public final class ActsTest {
         GrudgeLoft z = Check.town(Check.TOWN);
         z.meet(1, 3);
         Check.due("bay pays for poe, not cot on which it'd SIT", z.house(1, 1), 49);
+        z.undo();
+        z.meet(3, 1);
+        Check.due("bay pays for poe, named first", z.house(1, 1), 49);
+        for (int first = 0; first < 2; first++) {
+            GrudgeLoft now = Check.town(Check.TOWN);
+            Check.days(now, 3);
+            now.pay(0, 11);
+            now.meet(first, 1 - first);
+            Check.due("ash pays, pip has less LEFT NOW, " + first + " named first", now.house(0, 1), 16);
+            Check.due("bay has paid 11, " + first + " named first", now.house(1, 1), 39);
+        }
     }
 
     // Promise 51, "MEET: coins paid.": 0 of like LEFTS, though no house has any

@@ -16,6 +16,7 @@ public final class AmendsTest {
 
     public static void main(String[] args) {
         mayMeet();
+        mayMeetTheLast();
         mayMeetOfThoseGone();
         mayMeetRefused();
         meeting();
@@ -59,6 +60,26 @@ public final class AmendsTest {
         }
     }
 
+    // Promise 19, "Birds a bird may MEET NOW, as bits.": up to the last bits
+    private static void mayMeetTheLast() {
+        GrudgeLoft x = Check.town("loft wings 1 hawks 0 storm 0;house a at 0 coins 0;house b at 9 coins 0;"
+                + "bird p plain from a to b day 0 wrong 1;bird q plain from a to b day 0 wrong 1;"
+                + "bird r plain from a to b day 0 wrong 1;bird s plain from b to a day 0 wrong 1;"
+                + "bird t plain from b to a day 0 wrong 1;bird u plain from a to b day 0 wrong 1;"
+                + "bird v plain from b to a day 0 wrong 1");
+        for (int b = 0; b < 7; b++) {
+            int bird = b;
+            boolean isFromA = (0b0100111 >> b & 1) != 0;
+            Check.granted(x, "mayMeet(" + b + ")", () -> x.mayMeet(bird), isFromA ? 0b1011000 : 0b0100111);
+        }
+        Check.granted(x, "peaces()", x::peaces, 4 * 3 * 2);
+        int[] due = {-2, 3, 4, 1, 2, 6, 5};
+        for (int b = 0; b < due.length; b++) {
+            int bird = b;
+            Check.granted(x, "mate(" + b + ")", () -> x.mate(bird), due[b]);
+        }
+    }
+
     // Terms II, "two birds not gone, each from the house the other one is for, that one's too": gone ones meet none
     private static void mayMeetOfThoseGone() {
         GrudgeLoft x = Check.town(FOUR);
@@ -89,6 +110,7 @@ public final class AmendsTest {
         Check.days(x, 3);
         x.pay(0, 9);
         Check.granted(x, "meeting(0, 1), 9 paid", () -> x.meeting(0, 1), 2);
+        Check.granted(x, "meeting(1, 0), 9 paid", () -> x.meeting(1, 0), 2);
         GrudgeLoft like = Check.town(FOUR);
         Check.granted(like, "meeting of like ones", () -> like.meeting(0, 3), 0);
     }

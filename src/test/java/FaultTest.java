@@ -20,6 +20,7 @@ public final class FaultTest {
         upTo();
         anyOrder();
         namesMayBe();
+        namesForgotten();
         namesMayNotBe();
         toldAheadOfUse();
         leftmost();
@@ -127,6 +128,17 @@ public final class FaultTest {
                 + "bird plain plain from at to from day 0 wrong 1;bird honest plain from at to from day 0 wrong 1;"
                 + "stray proud from at day 30;stray blind from from day 0;seen from day 30 birds 9;"
                 + "seen at day 30 birds 0;seen wings day 0 birds 0", 6);
+    }
+
+    // Terms I, "NAMES are WORDS": so these are taken for one where a NAME is due, though it was forgotten
+    private static void namesForgotten() {
+        Check.faulty(1, Check.LOFT + "house at ^0 coins 0");
+        Check.faulty(1, HOUSES + "bird plain ^from ash to bay day 0 wrong 1");
+        Check.faulty(1, HOUSES + "stray from ^ash day 0");
+        Check.faulty(2, HOUSES + "bird x plain from ^to bay day 0 wrong 1");
+        Check.faulty(2, HOUSES + "bird x plain from ash to ^day 0 wrong 1");
+        Check.faulty(2, HOUSES + "stray s from ^day 0");
+        Check.faulty(2, HOUSES + "seen ^day 0 birds 1");
     }
 
     // Terms I, "NAMES are WORDS but loft, house, bird, stray, seen;": with these no TOWN goes on where a NAME is due

@@ -91,6 +91,17 @@ public final class LoftTest {
         Check.due("coins of bay", x.house(1, 1), 50);
         Check.due("WHITE of ash", x.house(0, 2), 0);
         Check.due("all is as at first", Check.told(x).equals(ahead), true);
+        GrudgeLoft full = Check.town(Check.FULL);
+        Check.days(full, 7);
+        for (int b = 0; b < 7; b++) {
+            full.pay(b, 1);
+        }
+        Check.loft(full, Check.FULL);
+        for (int b = 0; b < 7; b++) {
+            Check.due("LEFT of " + b, full.bird(b, 6), 7 - b);
+        }
+        Check.due("coins of f", full.house(5, 1), 300);
+        Check.due("WHITE of f", full.house(5, 2), 0);
     }
 
     // Promise 3, "nothing to undo, no IMAGES)": though there were

@@ -62,6 +62,14 @@ public final class RingsTest {
                 Check.granted(x, "ringAt(" + h + ", " + i + ")", () -> x.ringAt(house, at), (h + 6 - i) % 6);
             }
         }
+        GrudgeLoft y = Check.town(SIX + "bird p plain from b to a day 0 wrong 1;bird q plain from c to b day 0 wrong 1;"
+                + "bird r plain from d to c day 0 wrong 1;bird s plain from e to d day 0 wrong 1;"
+                + "bird t plain from f to e day 0 wrong 1;bird u plain from a to f day 0 wrong 1");
+        for (int h = 0; h < 6; h++) {
+            int house = h;
+            Check.granted(y, "ring(" + h + "), the other way", () -> y.ring(house), 6);
+            Check.granted(y, "ringAt(" + h + ", 5), the other way", () -> y.ringAt(house, 5), (house + 5) % 6);
+        }
     }
 
     // Promise 28, "the fewest houses (2 or more)": two, though there's a ring of three through the house
@@ -95,13 +103,15 @@ public final class RingsTest {
     private static void ringByBirdsNotGone() {
         GrudgeLoft x = Check.town(RING);
         Check.days(x, 3);
-        x.pay(0, 1);
-        for (int h = 0; h < 3; h++) {
-            int house = h;
-            Check.granted(x, "ring(" + h + "), one gone", () -> x.ring(house), -2);
+        for (int b = 0; b < 3; b++) {
+            x.pay(b, 1);
+            for (int h = 0; h < 3; h++) {
+                int house = h;
+                Check.granted(x, "ring(" + h + "), " + b + " gone", () -> x.ring(house), -2);
+            }
+            x.undo();
+            Check.granted(x, "ring(0), undone", () -> x.ring(0), 3);
         }
-        x.undo();
-        Check.granted(x, "ring(0), undone", () -> x.ring(0), 3);
         GrudgeLoft y = Check.town(Check.TOWN);
         y.meet(0, 1);
         Check.granted(y, "ring(0), two gone, poe FOR bay", () -> y.ring(0), -2);
@@ -247,6 +257,10 @@ public final class RingsTest {
                 + "bird q plain from bay to ash day 0 wrong 50;bird r plain from ash to cot day 0 wrong 3;"
                 + "bird s plain from cot to ash day 0 wrong 3");
         Check.granted(apart, "bestMeeting(), spared is not all that is LEFT", apart::bestMeeting, 23);
+        GrudgeLoft back = Check.town(Check.HOUSES + "bird p plain from ash to bay day 0 wrong 50;"
+                + "bird q plain from bay to ash day 0 wrong 1;bird r plain from ash to cot day 0 wrong 3;"
+                + "bird s plain from cot to ash day 0 wrong 3");
+        Check.granted(back, "bestMeeting(), nor twice the first's", back::bestMeeting, 23);
         GrudgeLoft z = Check.town(Check.HOUSES + "bird o plain from ash to cot day 0 wrong 9;"
                 + "bird p plain from ash to cot day 0 wrong 9;bird q plain from ash to cot day 0 wrong 9;"
                 + "bird r plain from ash to cot day 0 wrong 9;bird s plain from ash to cot day 0 wrong 9;"
