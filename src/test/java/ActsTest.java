@@ -34,6 +34,7 @@ public final class ActsTest {
         imageNumbers();
         imageRefused();
         imageFull();
+        imagesUpToThree();
         imageChangesNothing();
         backToEach();
         backUndoesNothing();
@@ -428,6 +429,24 @@ public final class ActsTest {
             Check.granted(x, "back(" + i + ")", () -> x.back(image));
             Check.due("the day", x.size(7), i);
         }
+    }
+
+    // Terms III, "IMAGES: up to 3;": undoing makes no room, another loft does
+    private static void imagesUpToThree() {
+        GrudgeLoft x = Check.town(Check.TOWN);
+        x.day();
+        for (int i = 0; i < 3; i++) {
+            Check.granted(x, "image()", x::image, i);
+        }
+        x.undo();
+        Check.refused(x, "image(), undone", x::image, 3);
+        Check.loft(x, Check.TOWN + "!");
+        Check.refused(x, "image() behind a faulty loft", x::image, 3);
+        Check.loft(x, Check.TOWN);
+        for (int i = 0; i < 3; i++) {
+            Check.granted(x, "image() of another TOWN", x::image, i);
+        }
+        Check.refused(x, "image() 4 of another TOWN", x::image, 3);
     }
 
     // Promise 53, "An IMAGE: its number.": what can be undone stays

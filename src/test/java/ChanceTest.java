@@ -8,6 +8,7 @@ public final class ChanceTest {
             + "house c at 91 coins 0;bird p plain from a to b day 0 wrong 1;bird q plain from a to c day 0 wrong 1";
 
     public static void main(String[] args) {
+        asLikelyAsTold();
         safe();
         safeOfNoDays();
         safeLowestTerms();
@@ -69,6 +70,20 @@ public final class ChanceTest {
     private static void staying(GrudgeLoft x, int n, long upper, long lower) {
         Check.granted(x, "stays(" + n + ") upper", () -> x.stays(n, false), upper);
         Check.granted(x, "stays(" + n + ") lower", () -> x.stays(n, true), lower);
+    }
+
+    // Terms III, "HAWKS: a bird that SITS NOW is taken on each day from NOW on by what was told, as likely as told.":
+    // the least, the most, and some between; NOW is no day behind which it may be taken
+    private static void asLikelyAsTold() {
+        long[][] due = {{0, 1, 1}, {1, 99, 100}, {2, 49, 50}, {50, 1, 2}, {75, 1, 4}, {99, 1, 100}, {100, 0, 1}};
+        for (long[] row : due) {
+            GrudgeLoft x = sevenSitting((int) row[0]);
+            safely(x, 0, 1, 1);
+            safely(x, 1, row[1], row[2]);
+            x.day();
+            safely(x, 1, row[1], row[2]);
+            staying(x, 1, row[1], row[2]);
+        }
     }
 
     // Promise 44, "How likely a bird that SITS NOW isn't taken in n days (0 .. 8)": by hawks 25 three of four each day

@@ -9,6 +9,7 @@ public final class NowTest {
 
     public static void main(String[] args) {
         birdIsForTheSecond();
+        sillOfOthers();
         sillOfBlindOnes();
         sillOfLikeOnes();
         sillMayBeItsOwn();
@@ -53,6 +54,18 @@ public final class NowTest {
         GrudgeLoft x = Check.town(Check.TOWN);
         Check.granted(x, "bird(1, 1)", () -> x.bird(1, 1), 1);
         Check.granted(x, "bird(1, 2)", () -> x.bird(1, 2), 0);
+    }
+
+    // Terms II, "Its SILL is that of the house it is for;": of all KINDS but blind, be another house at that place
+    private static void sillOfOthers() {
+        GrudgeLoft x = Check.town("loft wings 3 hawks 0 storm 0;house a at 5 coins 0;house b at 5 coins 0;"
+                + "house c at 5 coins 0;bird p plain from a to c day 0 wrong 1;bird q honest from c to a day 0 wrong 1;"
+                + "bird r proud from a to b day 0 wrong 1");
+        int[] due = {2, 0, 1};
+        for (int b = 0; b < due.length; b++) {
+            Check.due("SILL of " + b, x.bird(b, 3), due[b]);
+            Check.due("sitting on it", x.house(due[b], 3), 1 << b);
+        }
     }
 
     // Terms II, "of a blind one that of the house nearest to that one, besides it": of no other KIND

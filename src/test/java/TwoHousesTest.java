@@ -8,6 +8,7 @@ public final class TwoHousesTest {
         oneSendsAlone();
         sendsOfOther();
         sendsRefused();
+        restsByWhatEachHas();
         rests();
         restsRefused();
         rest();
@@ -70,6 +71,26 @@ public final class TwoHousesTest {
         for (int worth : BAD_WORTHS) {
             Check.refused(x, "sends(" + worth + ")", () -> x.sends(worth, true, false, false), 2);
             Check.refused(x, "sends(" + worth + ") of other", () -> x.sends(worth, false, false, true), 2);
+        }
+    }
+
+    // Terms III, "REST: a pair by which neither could have more alone.": as much is no more
+    private static void restsByWhatEachHas() {
+        boolean[] either = {false, true};
+        GrudgeLoft x = town();
+        for (int worth = 0; worth <= 9; worth++) {
+            int rests = 0;
+            int first = -2;
+            for (boolean one : either) {
+                for (boolean other : either) {
+                    boolean more = x.sends(worth, !one, other, false) > x.sends(worth, one, other, false)
+                            || x.sends(worth, one, !other, true) > x.sends(worth, one, other, true);
+                    rests += more ? 0 : 1;
+                    first = more || first >= 0 ? first : (one ? 10 : 0) + (other ? 1 : 0);
+                }
+            }
+            Check.due("rests(" + worth + ")", x.rests(worth), rests);
+            Check.due("rest(" + worth + ")", x.rest(worth), first);
         }
     }
 
