@@ -14,8 +14,9 @@ import java.util.stream.Stream;
 public final class RemarksTest {
     private static final Path TESTS = Path.of("src/test/java");
     private static final Path DOCUMENT = Path.of("../shared/DOC.md");
-    /** Those that go through no sentences: a model, any calls, the language, and this one. */
-    private static final List<String> OTHERS = List.of("ModelTest", "AnyCallTest", "LanguageTest", "RemarksTest");
+    /** Those that go through no sentences: a model, any calls, the language, README.md, and this one. */
+    private static final List<String> OTHERS =
+            List.of("ModelTest", "AnyCallTest", "LanguageTest", "ReadmeTest", "RemarksTest");
     private static final Pattern TEST = Pattern.compile(
             "(?m)((?:^    //.*\\n)*)^    private static void (\\w+)\\(\\) (?:throws \\w+ )?\\{$");
     private static final Pattern REMARK = Pattern.compile(
